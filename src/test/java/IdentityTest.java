@@ -1,0 +1,64 @@
+/** Promises 10, 14 and 15: identities. */
+public final class IdentityTest {
+    private static final int NONE = MailHeads.NONE;
+
+    public static void main(String[] args) {
+        due("", "");
+        due(" <a@b> x<c>\t<d>", "a@b|c|d|");
+        due("<>", "");
+        due("<a b> <c\td> <e>", "e|");
+        due("<a<b>>", "a<b|");
+        due("> <a> > <b", "a|");
+        due("(<a>) \"<b\\>c\" [<d>]", "a|b\\|d|");
+        due("<\u0001\u00ff\u007f>", "\u0001\u00ff\u007f|");
+        due("<" + "x".repeat(100) + "><" + "y".repeat(101) + "><z>", "x".repeat(100) + "|z|");
+        due("<a >< b><c>", "c|");
+        folded();
+        many();
+        outOfBounds();
+        Check.done();
+    }
+
+    private static void due(String value, String want) {
+        MailHeads mail = Check.value(value);
+        int count = mail.identities(0);
+        StringBuilder all = new StringBuilder();
+        for (int k = 0; k < count; k++) {
+            all.append(Check.text(mail, 4, k)).append('|');
+        }
+        Check.same("identities of " + value, all.toString(), want);
+        Check.same("length(4, count)", mail.length(4, count), NONE);
+        Check.same("length(4, -1)", mail.length(4, -1), NONE);
+        Check.same("at(4, max, 0)", mail.at(4, Integer.MAX_VALUE, 0), NONE);
+    }
+
+    private static void folded() {
+        MailHeads mail = Check.head("A: <a@b>\r\n <c@d>\nB: <e>\n");
+        Check.same("identities over two lines", mail.identities(0), 2);
+        Check.same("the second", Check.text(mail, 4, 1), "c@d");
+        Check.same("identities again", mail.identities(1), 1);
+        Check.same("the first again", Check.text(mail, 4, 0), "e");
+        Check.same("the second is gone", mail.length(4, 1), NONE);
+    }
+
+    private static void many() {
+        MailHeads mail = Check.value("<a>".repeat(499));
+        Check.same("499 identities", mail.identities(0), 499);
+        Check.same("the last one", Check.text(mail, 4, 498), "a");
+    }
+
+    private static void outOfBounds() {
+        MailHeads mail = Check.value("<a>");
+        mail.identities(0);
+        for (int field : new int[] {-1, 1, 1 << 31, Integer.MAX_VALUE}) {
+            String thrown = "nothing";
+            try {
+                mail.identities(field);
+            } catch (IndexOutOfBoundsException e) {
+                thrown = e.getClass().getSimpleName();
+            }
+            Check.same("identities(" + field + ") throws", thrown, "IndexOutOfBoundsException");
+        }
+        Check.same("what was read stays", Check.text(mail, 4, 0), "a");
+    }
+}
