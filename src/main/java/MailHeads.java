@@ -616,7 +616,7 @@ public final class MailHeads {
                     takeGathered(kind);
                 } else {
                     gathered.add(word);
-                    angled = kind == '<' || angled && kind != '>';
+                    angled = kind == '<' || (angled && kind != '>');
                 }
             }
             takeGathered(',');

@@ -59,6 +59,9 @@ public final class AddressTest {
         due("a@b..c", "1");
         due("a.", "1");
         due("@", "1");
+        due("@a", "1");
+        due("<@a>", "1");
+        due("!a!", "|!a!||-1 0");
         due("=/+*'%{}~\u00e9@x/y=z", "|=/+*'%{}~\u00e9|x/y=z|-1 0");
     }
 

@@ -107,6 +107,8 @@ public final class DateTest {
         due("1 Jan 2000 01:00:", NO_DATE);
         due("1 Jan 2000 01:00:xx", NO_DATE);
         due("1 Jan 2000 001:00", NO_DATE);
+        due("1 Jan 2000 01:001", NO_DATE);
+        due("1 Jan 2000 01:00:001", NO_DATE);
         due("1 Jan 2000 -1:00", NO_DATE);
     }
 

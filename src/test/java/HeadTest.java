@@ -43,15 +43,15 @@ public final class HeadTest {
         Check.same("end(min)", mail.end(Integer.MIN_VALUE), NONE);
         Check.same("end(max)", mail.end(Integer.MAX_VALUE), NONE);
         Check.same("end(20) behind refused ones", mail.end(20), 20);
-        Check.same("end(3): the bytes are 0 again", mail.end(3), 23);
+        Check.same("end(20): the bytes are 0 again", mail.end(20), 40);
         mail.feed(0x01020304, 0, 0, 0, 0);
         mail.feed(0x61626364, 0, 0, 0, 0);
-        Check.same("end(0)", mail.end(0), 23);
-        Check.same("end(1): the bytes are 0 behind end(0), too", mail.end(1), 24);
+        Check.same("end(0)", mail.end(0), 40);
+        Check.same("end(4): the bytes are 0 behind end(0), too", mail.end(4), 44);
         Check.same("read()", mail.read(), 1);
         Check.same("value", Check.field(mail, 0, 1),
             "\u0080\u0001\u00ff\u0002\u0003\u0004\u0005\u0006\u0007\u0008\u0009\u000b\u000c\r"
-            + "\u000e\u000f\u0010\u0011\0\0\0\0");
+            + "\u000e\u000f\u0010\u0011" + "\0".repeat(24));
         Check.same("end(0): the tape is empty behind read()", mail.end(0), 0);
     }
 
@@ -130,6 +130,10 @@ public final class HeadTest {
         Check.same("end(0) behind a find() of nothing", mail.end(0), 0);
         Check.same("find of more", Check.find(mail, "abc-[ "), NONE);
         Check.same("find of nothing", mail.find(), NONE);
+        mail = Check.head("@AZ[`az{:1");
+        Check.same("find, the letters' ends", Check.find(mail, "@az[`AZ{"), 0);
+        Check.same("find: ` is not @", Check.find(mail, "`az[`az{"), NONE);
+        Check.same("find: [ is not {, at the end", Check.find(mail, "@az[`az["), NONE);
     }
 
     private static void fieldBytes() {

@@ -180,6 +180,11 @@ public final class TypeTest {
         mail.read();
         Check.same("x behind read()", Check.inHand(mail, false), "z");
         Check.same("x again, behind read()", Check.parameter(mail, "x"), "z");
+        Check.tape(mail, "A: a/b; n*0*=v; n*1=w\nB: a/b; n*1=%41; n*0*=%41");
+        mail.read();
+        mail.type(0);
+        mail.type(1);
+        Check.same("n, with nothing left of the TYPE ahead", Check.parameter(mail, "n"), "A%41");
         Check.same("no q", Check.parameter(mail, "q"), null);
         Check.same("nothing in hand then", mail.parameterByte(false, 0), NONE);
     }
