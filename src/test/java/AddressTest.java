@@ -15,26 +15,8 @@ public final class AddressTest {
         Check.done();
     }
 
-    /** All MAILBOXES as TITLE|LOCAL|DOMAIN|GROUP, GROUPS' names in { }, and how many were BAD. */
-    private static String read(String value) {
-        MailHeads mail = Check.value(value);
-        int count = mail.addresses(0);
-        StringBuilder all = new StringBuilder();
-        for (int k = 0; k < count; k++) {
-            all.append(Check.text(mail, 0, k)).append('|').append(Check.text(mail, 1, k)).append('|');
-            all.append(Check.text(mail, 2, k)).append('|').append(mail.group(2, k)).append(' ');
-        }
-        for (int k = 0; k < mail.group(0, 0); k++) {
-            all.append('{').append(Check.text(mail, 3, k)).append("} ");
-        }
-        Check.same("length(0, count)", mail.length(0, count), NONE);
-        Check.same("group(2, count)", mail.group(2, count), NONE);
-        Check.same("length(3, groups)", mail.length(3, mail.group(0, 0)), NONE);
-        return all.append(mail.group(1, 0)).toString();
-    }
-
     private static void due(String value, String want) {
-        Check.same("addresses of " + value, read(value), want);
+        Check.same("addresses of " + value, Check.addresses(value), want);
     }
 
     private static void specs() {
@@ -188,13 +170,7 @@ public final class AddressTest {
         mail.type(2);
         mail.date(3);
         for (int field : new int[] {-1, 4, 1 << 31, Integer.MAX_VALUE}) {
-            String thrown = "nothing";
-            try {
-                mail.addresses(field);
-            } catch (IndexOutOfBoundsException e) {
-                thrown = e.getClass().getSimpleName();
-            }
-            Check.same("addresses(" + field + ") throws", thrown, "IndexOutOfBoundsException");
+            Check.throwsOutOfBounds("addresses(" + field + ")", () -> mail.addresses(field));
         }
         mail.read();
         Check.same("what was read stays: mailbox", Check.text(mail, 1, 0), "x");

@@ -145,13 +145,7 @@ public final class DateTest {
     private static void outOfBounds() {
         MailHeads mail = Check.value("1 Jan 2000 00:00");
         for (int field : new int[] {-1, 1, 1 << 31, Integer.MAX_VALUE}) {
-            String thrown = "nothing";
-            try {
-                mail.date(field);
-            } catch (IndexOutOfBoundsException e) {
-                thrown = e.getClass().getSimpleName();
-            }
-            Check.same("date(" + field + ") throws", thrown, "IndexOutOfBoundsException");
+            Check.throwsOutOfBounds("date(" + field + ")", () -> mail.date(field));
         }
     }
 }

@@ -20,16 +20,7 @@ public final class IdentityTest {
     }
 
     private static void due(String value, String want) {
-        MailHeads mail = Check.value(value);
-        int count = mail.identities(0);
-        StringBuilder all = new StringBuilder();
-        for (int k = 0; k < count; k++) {
-            all.append(Check.text(mail, 4, k)).append('|');
-        }
-        Check.same("identities of " + value, all.toString(), want);
-        Check.same("length(4, count)", mail.length(4, count), NONE);
-        Check.same("length(4, -1)", mail.length(4, -1), NONE);
-        Check.same("at(4, max, 0)", mail.at(4, Integer.MAX_VALUE, 0), NONE);
+        Check.same("identities of " + value, Check.identities(value), want);
     }
 
     private static void folded() {
@@ -51,13 +42,7 @@ public final class IdentityTest {
         MailHeads mail = Check.value("<a>");
         mail.identities(0);
         for (int field : new int[] {-1, 1, 1 << 31, Integer.MAX_VALUE}) {
-            String thrown = "nothing";
-            try {
-                mail.identities(field);
-            } catch (IndexOutOfBoundsException e) {
-                thrown = e.getClass().getSimpleName();
-            }
-            Check.same("identities(" + field + ") throws", thrown, "IndexOutOfBoundsException");
+            Check.throwsOutOfBounds("identities(" + field + ")", () -> mail.identities(field));
         }
         Check.same("what was read stays", Check.text(mail, 4, 0), "a");
     }
