@@ -136,9 +136,12 @@ final class Check {
     static String parameter(MailHeads mail, String name) {
         tape(mail, name);
         int size = mail.parameter();
+        if (size == MailHeads.NONE) {
+            return null;
+        }
         String text = inHand(mail, false);
-        same("parameter() and what is in hand", Math.max(0, size), text.length());
-        return size == MailHeads.NONE ? null : text;
+        same("parameter() and what is in hand", size, text.length());
+        return text;
     }
 
     /** The parameter of this name of the TYPE a/b with this behind it, as CHARSET'bytes; null if there is none. */

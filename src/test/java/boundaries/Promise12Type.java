@@ -61,19 +61,19 @@ public final class Promise12Type {
     }
 
     private static void anew() {
-        MailHeads mail = Check.head("A:a/b;n*0*=%41;n*1=b;m=c\nB:d/e;m*=%42;n*0=%41\nC:x@y <i>");
+        MailHeads mail = Check.head("A:a/b;n*0*=%41;n*1=b;m=c\nB:d/e;m=%42;n*0*=%43\nC:x@y <i>");
         Check.same("type(0)", mail.type(0) ? 1 : 0, 1);
         Check.same("type(0) again", mail.type(0) ? 1 : 0, 1);
         Check.same("its n", Check.parameter(mail, "n"), "Ab");
         Check.same("type(1)", mail.type(1) ? 1 : 0, 1);
         Check.same("its first part", Check.text(mail, 5, 0), "d");
         Check.same("its second part", Check.text(mail, 6, 0), "e");
-        Check.same("its own n alone", Check.parameter(mail, "n"), "%41");
-        Check.same("its own m alone", Check.parameter(mail, "m"), "B");
+        Check.same("its own n alone", Check.parameter(mail, "n"), "C");
+        Check.same("its own m alone", Check.parameter(mail, "m"), "%42");
         mail.addresses(2);
         mail.identities(2);
         mail.date(2);
         Check.same("it stays over other readings", Check.text(mail, 5, 0), "d");
-        Check.same("its m, too", Check.parameter(mail, "m"), "B");
+        Check.same("its m, too", Check.parameter(mail, "m"), "%42");
     }
 }

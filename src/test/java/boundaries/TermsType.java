@@ -151,6 +151,9 @@ public final class TermsType {
         due(";n*0=a;m*1=b", "'a");
         due(";m*0=a;n*1=b", null);
         due(";n*0=a;n=b", "'b");
+        due(";n*0=a;n*1=b;n=c", "'c");
+        due(";n=a;n*1=b", "'a");
+        due(";n*=a;n*1*=b;n*2=c", "'a");
         due(";n=b;n*0=a", "'b");
         due(";n*0=a;n*=b", "'b");
         due(";n=a;n=b", "'a");
