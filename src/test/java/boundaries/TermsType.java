@@ -213,6 +213,8 @@ public final class TermsType {
         due(";n*=''v", "'v");
         due(";n*='l'v", "'v");
         due(";n*=u''v", "u'v");
+        due(";n*=U%4A'%27'%4A", "u%4a'J");
+        due(";n*0*=%41'%41'%41;n*1*=%41'%41'%41", "%41'AA'A'A");
         due(";n*=u'l'", "u'");
         due(";n*=u'l'v", "u'v");
         due(";n*=u'l'v'w", "u'v'w");
